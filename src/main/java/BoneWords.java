@@ -328,19 +328,17 @@ public final class BoneWords {
         int sets = 1 << reef.writers;
         for (int size = 0; size < reef.writers; size++) {
             for (int set = 0; set < sets; set++) {
-                boolean fits = Integer.bitCount(set) == size && (set >> writer & 1) == 0;
-                if (fits && isWrittenWithout(set, writer, v, n)) {
+                if (Integer.bitCount(set) != size || (set >> writer & 1) == 1) {
+                    continue;
+                }
+                trial.become(reef);
+                trial.passDays(n, set);
+                if (trial.written[writer] >= v) {
                     return set;
                 }
             }
         }
         return finding(NONE);
-    }
-
-    private boolean isWrittenWithout(int idle, int writer, int v, int n) {
-        trial.become(reef);
-        trial.passDays(n, idle);
-        return trial.written[writer] >= v;
     }
 
     public int bonesFor(int fish, int n) {
@@ -725,7 +723,7 @@ public final class BoneWords {
 
     /** The letter in a place (0 to 2) of a fish's bones. */
     private static int bone(int bones, int place) {
-        return digit(bones, place + 1);
+        return bones / TENS[place + 1] % 10;
     }
 
     private static int lettersOf(int bones) {
@@ -1243,28 +1241,20 @@ public final class BoneWords {
             if (next >= size) {
                 token = END;
             } else if (isSmallLetter(bytes[next])) {
-                readName();
+                token = NAME;
+                while (next < size && isSmallLetter(bytes[next])) {
+                    next++;
+                }
             } else if (isDigit(bytes[next])) {
-                readNumber();
+                token = NUMBER;
+                value = 0;
+                while (next < size && isDigit(bytes[next])) {
+                    // no number may be 10000, and no run of digits wraps around
+                    value = Math.min(10000, value * 10 + bytes[next] - '0');
+                    next++;
+                }
             } else {
                 token = bytes[next] == ';' ? SIGN : OTHER;
-                next++;
-            }
-        }
-
-        private void readName() {
-            token = NAME;
-            while (next < size && isSmallLetter(bytes[next])) {
-                next++;
-            }
-        }
-
-        /** More than 9999 is told as 10000, which no number may be, so that no run of digits wraps around. */
-        private void readNumber() {
-            token = NUMBER;
-            value = 0;
-            while (next < size && isDigit(bytes[next])) {
-                value = Math.min(10000, value * 10 + bytes[next] - '0');
                 next++;
             }
         }

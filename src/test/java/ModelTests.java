@@ -75,10 +75,10 @@ public final class ModelTests {
                 s.append(draw(2) == 0 ? "" : " word " + draw(10050));
                 s.append(draw(2) == 0 ? "" : " fat" + draw(101));
             } else if (first == 7) {
-                s.append("fish ").append(draw(6)).append(' ').append(draw(1002));
+                s.append("fish ").append(draw(20) == 0 ? 6 : draw(6)).append(' ').append(draw(1002));
                 s.append(draw(2) == 0 ? "" : "catch " + draw(22));
             } else {
-                s.append(" jar").append(draw(10)).append(" 0").append(draw(100));
+                s.append(" jar").append(draw(20) == 0 ? 10 : draw(10)).append(" 0").append(draw(100));
             }
             s.append(items > 1 || draw(20) == 0 ? ";" : "");
         }

@@ -187,6 +187,10 @@ public final class PromiseTests {
         due("7: widow thin", 1, x.of(6, 6));
         x.change(5, 3, 31);
         due("7: child odd", 1, x.of(5, 6));
+        x.change(5, 3, 33);
+        due("7: child odd again", 1, x.of(5, 6));
+        x.change(5, 3, 28);
+        due("7: child even", 2, x.of(5, 6));
         for (int w : new int[] {0, 2, 3}) {
             x.change(w, 3, 99);
             due("7: fat eats as ever", eats[w], x.of(w, 5));
@@ -257,6 +261,27 @@ public final class PromiseTests {
         due("11: n -1", BEYOND, x.go(-1));
         due("11: n MIN", BEYOND, x.go(MIN));
         due("11: day stays", 62, x.now(0));
+    }
+
+    /** Within 512 calls DAY can't come so far: what later calls answer is free, but this class keeps to its word. */
+    private static void lastDay() {
+        BoneWords x = new BoneWords();
+        for (int i = 0; i < 1666; i++) {
+            x.go(60);
+        }
+        due("11: day", 99960, x.now(0));
+        due("11: above", STATE, x.go(40));
+        due("27: twenty", 0, x.catches(20));
+        due("27: above", STATE, x.catches(20));
+        due("11: the last ones", 0, x.go(18));
+        due("27: the last one", 0, x.catches(1));
+        due("11: day 99999", 99999, x.now(0));
+        due("11: no other", STATE, x.go(1));
+        due("27: no other", STATE, x.catches(1));
+        due("11: beyond ahead of that", BEYOND, x.go(61));
+        due("27: beyond ahead of that", BEYOND, x.catches(21));
+        x.jar(2, 100);
+        due("13: days go on, without soup", 100, x.later(2, 50));
     }
 
     /** What of a day's four parts no other promise's test tells apart. */
@@ -350,6 +375,15 @@ public final class PromiseTests {
         due("12: who waits further on", 6, x.now(4));
         x.go(5);
         due("12: day then", 5, x.now(0));
+        read(x, "poet fat 0;poet;poet;poet;child fat 0");
+        x.jar(0, 0);
+        due("12: all eight wait", 255, x.now(4));
+        due("12: eight's fat", 90, x.now(3));
+        due("12: of eight two more starve", 143, x.now(6));
+        due("12: lacking 0 too", 1021, x.now(5));
+        x.jar(0, 1);
+        due("12: three wait", 7, x.now(4));
+        due("12: nobody starves", 0, reef("writer;poet").now(6));
         due("12: what 7", BEYOND, x.now(7));
         due("12: what -1", BEYOND, x.now(-1));
     }
@@ -425,6 +459,10 @@ public final class PromiseTests {
         x.jar(1, 200);
         // 200, 186: 168, 154: 139, 125: 113, 99: 90, 76: 69, 55: 50, 36: 33, 19: 18, then 2 a day to 4, 0
         due("17: soups help", 65, x.out(1));
+        BoneWords y = bare("widow word 1111;jar 1 205");
+        due("17: 100", 100, y.out(1));
+        y.jar(1, 206);
+        due("17: 101", NONE, y.out(1));
         due("17: letter 10", BEYOND, x.out(10));
         due("17: letter -1", BEYOND, x.out(-1));
         due("17: nothing changes", 200, x.bones(1));
@@ -458,6 +496,8 @@ public final class PromiseTests {
         due("19: never", NONE, x.fewest(0, 1, 9999, 40));
         due("19: not in a day", NONE, x.fewest(0, 1, 1, 1));
         due("19: nothing changes", 0, x.fishOf(0, 1));
+        BoneWords y = bare("lawyer word 2;lawyer word 2;lawyer word 2;writer word 1111;fish 0 111");
+        due("19: twenty", 20, y.fewest(0, 3, 1, 3));
         due("19: fish 6", BEYOND, x.fewest(6, 1, 1, 1));
         due("19: writer 2", BEYOND, x.fewest(0, 2, 1, 1));
         due("19: v 10000", BEYOND, x.fewest(0, 1, 10000, 1));
@@ -504,6 +544,12 @@ public final class PromiseTests {
         due("22: too many", NONE, x.away(3, 3, 20));
         due("22: not itself", NONE, x.away(0, 3, 20));
         due("22: a single one of two words", 0, x.away(0, 0, 0));
+        x.change(2, 0, 3);
+        x.change(2, 1, 1111);
+        x.jar(1, 12);
+        due("22: a greater set of fewer", 4, x.away(3, 1, 2));
+        x.change(2, 0, 0);
+        x.change(2, 1, 2222);
         x.fish(0, 1, 6);
         x.fish(0, 0, 111);
         x.jar(1, 0);
@@ -534,6 +580,10 @@ public final class PromiseTests {
         due("23: poet", 111, x.bonesFor(0, 6));
         x.jar(1, 999);
         due("23: no room for 1s", 222, x.bonesFor(0, 6));
+        for (int l = 0; l < 9; l++) {
+            x.jar(l, 999);
+        }
+        due("23: room for 9s alone", 999, x.bonesFor(0, 1));
         due("23: nothing changes", 555, x.fishOf(0, 0));
         due("23: fish 6", BEYOND, x.bonesFor(6, 1));
         due("23: fish -1", BEYOND, x.bonesFor(-1, 1));
@@ -690,8 +740,11 @@ public final class PromiseTests {
         String[] faulty = {"", "   ", "jar", "jar 0 ", "jar 0 1 ;", ";", "jar;", "jar 1 2;;jar 1 2", "Jar 0 1", "jar 0 1.",
             "poet 3", "poet fat", "poet fat 3 fat 4", "poet word 3 poet", "poet word word", "fish 1", "fish 1 2 catch",
             "fish 1 2 catch 21", "fish 1 2 3", "jar 0 1 catch 2", "jar 0 99999999999999999999", "poetfat 3", "jar\t0 1",
-            "jar 0 1 \u00ff", "catch 3", "jar -1 3", "writer word 1 fat 100", "cat"};
-        int[] places = {0, 3, 3, 6, 9, 0, 3, 8, 0, 7, 5, 8, 11, 12, 10, 6, 14, 15, 9, 8, 6, 0, 3, 8, 0, 4, 18, 0};
+            "jar 0 1 \u00ff", "catch 3", "jar -1 3", "writer word 1 fat 100", "cat", "fish 6 0",
+            "fish 5 1000", "jar 10 0", "jar 9 1000", "poet word", "poet word;poet", "fish", "fish;poet", "poetz",
+            "jar 0;poet", "fish 0;poet", "jar 0 5 ; poet fat ; poet", "fish 0 5 catch;poet", "goet", "bar 0 1", "poet sat 3", "jas 0 1"};
+        int[] places = {0, 3, 3, 6, 9, 0, 3, 8, 0, 7, 5, 8, 11, 12, 10, 6, 14, 15, 9, 8, 6, 0, 3, 8, 0, 4, 18, 0, 5, 7, 4, 6, 9, 9, 4, 4,
+            0, 5, 6, 19, 14, 0, 0, 5, 0};
         for (int i = 0; i < faulty.length; i++) {
             BoneWords x = reef("jar 0 5");
             due("32: " + faulty[i], -1 - places[i], read(x, faulty[i]));
@@ -828,6 +881,8 @@ public final class PromiseTests {
         due("37: other 0", 0, x.bones(0));
         due("37: other 1", 3, x.bones(1));
         due("37: other 2", 4, x.bones(2));
+        due("37: all of it", 3, x.copy(1, 0, 0, 2, 3));
+        due("37: all of both", 5, x.copy(0, 0, 0, 0, 5));
         due("37: none, at the end", 0, x.copy(0, 5, 1, 3, 0));
         due("37: none, behind the end", BEYOND, x.copy(0, 6, 1, 0, 0));
         due("37: too many there", BEYOND, x.copy(0, 0, 1, 0, 4));
@@ -998,6 +1053,7 @@ public final class PromiseTests {
         p09();
         p10();
         p11();
+        lastDay();
         daysEating();
         daysWriting();
         daysSoup();
