@@ -1,62 +1,5 @@
 /** For each promise of the document: ordinary calls, the edges that it names, and wrong ones. */
-public final class PromiseTests {
-    private static final int BEYOND = -1000001;
-    private static final int FULL = -1000002;
-    private static final int KIND = -1000003;
-    private static final int NONE = -1000004;
-    private static final int STATE = -1000005;
-    private static final int MISSING = -1000006;
-    private static final int SIZE = -1000007;
-    private static final int MIN = Integer.MIN_VALUE;
-    private static final int MAX = Integer.MAX_VALUE;
-
-    private static int passed = 0;
-    private static int failed = 0;
-
-    private static void due(String call, long want, long got) {
-        if (got == want) {
-            passed++;
-        } else {
-            failed++;
-            System.out.println(call + " answered " + got + ", due is " + want);
-        }
-    }
-
-    /** Feeds a text byte by byte and reads it. */
-    private static int read(BoneWords x, String text) {
-        for (int i = 0; i < text.length(); i++) {
-            x.feed(text.charAt(i), 1);
-        }
-        return x.text();
-    }
-
-    private static BoneWords reef(String text) {
-        BoneWords x = new BoneWords();
-        read(x, text);
-        return x;
-    }
-
-    private static void fill(BoneWords x, int s, int bits, int... numbers) {
-        x.sheet(s, bits, numbers.length);
-        for (int i = 0; i < numbers.length; i++) {
-            x.write(s, i, numbers[i]);
-        }
-    }
-
-    /** No fish is caught unless a test says so. */
-    private static void noCatch(BoneWords x) {
-        for (int f = 0; f < 6; f++) {
-            x.fish(f, 1, 0);
-        }
-    }
-
-    private static BoneWords bare(String text) {
-        BoneWords x = new BoneWords();
-        noCatch(x);
-        read(x, text);
-        return x;
-    }
-
+public final class PromiseTests extends Checks {
     private static void p01() {
         BoneWords x = new BoneWords();
         int[] counts = {0, 0, 0, 0, 0, 0, 1, 0};
@@ -261,27 +204,6 @@ public final class PromiseTests {
         due("11: n -1", BEYOND, x.go(-1));
         due("11: n MIN", BEYOND, x.go(MIN));
         due("11: day stays", 62, x.now(0));
-    }
-
-    /** Within 512 calls DAY can't come so far: what later calls answer is free, but this class keeps to its word. */
-    private static void lastDay() {
-        BoneWords x = new BoneWords();
-        for (int i = 0; i < 1666; i++) {
-            x.go(60);
-        }
-        due("11: day", 99960, x.now(0));
-        due("11: above", STATE, x.go(40));
-        due("27: twenty", 0, x.catches(20));
-        due("27: above", STATE, x.catches(20));
-        due("11: the last ones", 0, x.go(18));
-        due("27: the last one", 0, x.catches(1));
-        due("11: day 99999", 99999, x.now(0));
-        due("11: no other", STATE, x.go(1));
-        due("27: no other", STATE, x.catches(1));
-        due("11: beyond ahead of that", BEYOND, x.go(61));
-        due("27: beyond ahead of that", BEYOND, x.catches(21));
-        x.jar(2, 100);
-        due("13: days go on, without soup", 100, x.later(2, 50));
     }
 
     /** What of a day's four parts no other promise's test tells apart. */
@@ -1053,7 +975,6 @@ public final class PromiseTests {
         p09();
         p10();
         p11();
-        lastDay();
         daysEating();
         daysWriting();
         daysSoup();
@@ -1089,7 +1010,6 @@ public final class PromiseTests {
         p42();
         p43();
         p44();
-        System.out.println("PromiseTests: " + passed + " passed, " + failed + " failed");
-        System.exit(failed == 0 ? 0 : 1);
+        finish("PromiseTests");
     }
 }
