@@ -132,7 +132,7 @@ public final class LanguageTests {
     }
 
     public static void main(String[] args) throws Exception {
-        if (args.length != 2) {
+        if (args.length < 2) {
             System.out.println("LanguageTests needs the path of the class and that of the document");
             System.exit(1);
         }
